@@ -515,7 +515,8 @@ public final class BallInCup {
         }
 
         int get(int row, int column) {
-            return has(row) && column >= 0 && column < columns ? rows[row][column] : 0;
+            boolean isThere = row >= 0 && row < size && column >= 0 && column < columns;
+            return isThere ? rows[row][column] : 0;
         }
 
         void put(int row, int column, int value) {
@@ -782,25 +783,24 @@ public final class BallInCup {
 
         private int metCup(int aheadY) {
             Table cups = setup.cups;
+            int nowX = x - hand.x;
             int nowY = y - hand.y;
             for (int cup = 0; cup < cups.size; cup++) {
                 int cupY = cups.get(cup, Y);
-                if (aheadY >= cupY && nowY < cupY && awayFrom(cup) <= cups.get(cup, WIDE) + RIM) {
+                boolean isPassed = aheadY >= cupY && nowY < cupY;
+                if (isPassed && Math.abs(nowX - cups.get(cup, X)) <= cups.get(cup, WIDE) + RIM) {
                     return cup;
                 }
             }
             return NO_CUP;
         }
 
-        private int awayFrom(int cup) {
-            return Math.abs(x - hand.x - setup.cups.get(cup, X));
-        }
-
         private void comeDownOn(int cup) {
-            boolean isInside = awayFrom(cup) <= setup.cups.get(cup, WIDE);
+            Table cups = setup.cups;
+            boolean isInside = Math.abs(x - hand.x - cups.get(cup, X)) <= cups.get(cup, WIDE);
             boolean isSlow = Math.abs(paceX - hand.u) <= setup.settings[SOFT];
             boolean isUpright = turn == TURNS - 1 || turn == 0 || turn == 1;
-            if (isInside && isSlow && (setup.cups.get(cup, SPIKE) == 0 || isUpright)) {
+            if (isInside && isSlow && (cups.get(cup, SPIKE) == 0 || isUpright)) {
                 caught = cup;
             } else {
                 rims++;

@@ -24,6 +24,7 @@ public final class PromisesTest {
         ends();
         cells();
         middle();
+        grids();
         mended();
         odds();
         which();
@@ -388,6 +389,10 @@ public final class PromisesTest {
         }
         due("at(99, 3)", caught.at(99, 3), -5);
         due("at(99, 8)", caught.at(99, 8), 0);
+        BallInCup below = made(30, 1, "", "1+0-9");
+        due("slack at once", below.at(0, 8), 0);
+        due("with no turn", below.at(1, 4), 0);
+        due("and no spin", below.at(1, 5), 0);
         BallInCup far = made(10, 1, "", "20+9+0;20+9+0;20+9+0;20+9+0;20+9+0;20-9+0");
         due("the hand goes through 100 steps", far.at(99, 6), 900);
     }
@@ -478,6 +483,12 @@ public final class PromisesTest {
         due("it is not caught there", soft.at(6, 3) >= 0 ? 1 : 0, 1);
         soft.set(2, 6);
         due("not too fast for 6", soft.end(0), 0);
+        BallInCup along = made(10, 3, "+1-73", "1+2+8;5-1-3;3-2-1");
+        due("its pace by x", along.at(7, 2), -7);
+        due("but the hand goes along by -2", along.at(7, 6) - along.at(6, 6), -2);
+        endDue(along, 0, 7, 0, along.end(3));
+        along.set(2, 4);
+        due("5 is too fast for 4", along.end(2) > 0 ? 1 : 0, 1);
     }
 
     private static void spikeDue(int cord, String cup, String pull, int turn, boolean isCaught) {
@@ -609,6 +620,39 @@ public final class PromisesTest {
         for (int what = 0; what < 3; what++) {
             due("none ends in it", none.middle(0, what), -100004);
         }
+    }
+
+    private static void gridDue(BallInCup b, String picture, int... wanted) {
+        promise = 14;
+        same("the grid", picture(b, 0), picture);
+        for (int what = 0; what < 3; what++) {
+            promise = 15;
+            due("cells(0, " + what + ")", b.cells(0, what), wanted[what]);
+            promise = 16;
+            due("middle(0, " + what + ")", b.middle(0, what), wanted[3 + what]);
+        }
+    }
+
+    /** Grids that reach the edges: how many, cells, the largest, then the middle. */
+    private static void grids() {
+        gridDue(made(10, 1, "+1-89", "2-1+5;2+1+2"), "o--ooooooo ----oooooo ---ooooooo ----oooooo ----oooooo"
+            + " ----oooooo ----oooooo ---ooooooo oo--oooooo", 60, 3, 57, -2, 6, 2);
+        gridDue(made(14, 1, "+3+23", "1-3+0;1-1+8"), "---------- ---------- ---------- ---------- ---------o"
+            + " ooooooooo- ooooooooo- ooooooo--- ooooooooo-", 35, 2, 34, 2, 1, 1);
+        gridDue(made(23, 1, "+1-99", "1+0+9;3+3+5;1+2+6"), "------o-o- ------ooo- -------oo- ------o-o- -------o--"
+            + " -------o-o ---------o ---------o ---------o", 15, 4, 8, -4, 6, 0);
+        gridDue(made(11, 2, "+0-93", "2+0+0"), "--------oo -------oo- ------o--- ----o---oo ----oooooo"
+            + " ----o---oo ------o--- -------oo- --------oo", 22, 5, 12, -4, 8, 0);
+        gridDue(made(11, 1, "+2+67", "2-2+8"), "---------o ---------o --------oo --------oo -------ooo"
+            + " -------ooo -------ooo --------oo -------o-o", 19, 2, 18, 1, 8, 1);
+        gridDue(made(10, 1, "-4+36", "1-3+7;2+0+9"), "---ooooooo oooooooooo oooooooooo oooooooooo oooooooooo"
+            + " oooooooooo oooooooooo oooooooooo oooooooooo", 87, 1, 87, -1, 6, 3);
+        gridDue(made(14, 2, "+2-69", "1-1+3;2+3+8"), "oooooooooo oooooooooo oooooooooo oooooooooo oooooooooo"
+            + " oooooooooo oooooooooo oooooooooo -ooooooooo", 89, 1, 89, 0, 5, 4);
+        gridDue(made(10, 2, "-3-96", "3-2+7;3+3+9;1-3+0"), "oooooooooo oooooooooo oooooooooo oooooooooo oooooooooo"
+            + " oooooooooo oooooooooo oooooooooo oooooooooo", 90, 1, 90, 0, 4, 4);
+        gridDue(made(13, 2, "-2+58", "2+0+7;2-2+7;3+1+9"), "o--------- ---------- ---------- ---------- ----------"
+            + " ---------- ---------- ---------- ----------", 1, 1, 1, -4, 0, 0);
     }
 
     private static void mended() {
@@ -794,6 +838,9 @@ public final class PromisesTest {
         BallInCup hanging = made(30, 1, "+9+90", "1+0+0");
         due("none is good: the least", hanging.cord(0, 0), 10);
         due("none is good", hanging.cord(0, 1), 0);
+        BallInCup longest = made(30, 1, "-5+33", "12-4-9;14+4+6");
+        due("the longest", longest.cord(0, 0), 60);
+        due("the longest", longest.cord(0, 1), 8);
         due("cord(0, 2)", b.cord(0, 2), BallInCup.BAD);
         due("cord(0, -1)", b.cord(0, -1), BallInCup.BAD);
         due("cord(1, 0)", b.cord(1, 0), BallInCup.BAD);
@@ -906,6 +953,17 @@ public final class PromisesTest {
         due("filmed(.., 0)", b.filmed(0, 1, 0, 1, 0), count);
         due("filmed(.., 1)", b.filmed(0, 1, 0, 1, 1), first / 10 - 4);
         due("filmed(.., 2)", b.filmed(0, 1, 0, 1, 2), first % 10);
+        for (int u = -4; u <= 4; u += 4) {
+            for (int v = 0; v <= 9; v += 9) {
+                BallInCup edge = made(10, 1, "", "");
+                edge.part(3, u, v);
+                edge.sheet(3, 1, 24);
+                edge.film(3, 1, 0, 12);
+                due("how many by edge", edge.filmed(3, 1, 0, 12, 0), 1);
+                due("u of the edge", edge.filmed(3, 1, 0, 12, 1), u);
+                due("v of the edge", edge.filmed(3, 1, 0, 12, 2), v);
+            }
+        }
     }
 
     private static void image() {

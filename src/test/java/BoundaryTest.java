@@ -148,9 +148,10 @@ public final class BoundaryTest {
     }
 
     /**
-     * Cord 40, one step of a pull of the grid, whose ball never comes up to the hand and is at rest again by step 36;
-     * so with step 41 all 90 do the same: up by 9, then down by 9 three times. From the hand the ball is at -40, -23,
-     * -7, 8, 13, 17, 20, 22, 23, 23, 22, 20, 17, 13, 8, 2, -5 behind steps 41 to 57, slack in all but step 41.
+     * Cord 40, one step of a pull of the grid, whose ball never comes up to the hand and is at rest again behind step
+     * 40 (t02AlikeAtRest looks at that); so with step 41 all 90 do the same: up by 9, then down by 9 three times. From
+     * the hand the ball is at -40, -23, -7, 8, 13, 17, 20, 22, 23, 23, 22, 20, 17, 13, 8, 2, -5 behind steps 41 to 57,
+     * slack in all but step 41.
      */
     private static BallInCup alike(String cups, String down) {
         return made(40, cups, "1+0+0;20+0+0;20+0+0;1+0+9;" + down);
@@ -1001,6 +1002,47 @@ public final class BoundaryTest {
 
     // ---- 2 the grid
 
+    private static void heights(BallInCup b, int step, int x, int... y) {
+        for (int i = 0; i < y.length; i++) {
+            due("x from the hand, step " + (step + i), b.at(step + i, 0) - b.at(step + i, 6), x);
+            due("y from the hand, step " + (step + i), b.at(step + i, 1) - b.at(step + i, 7), y[i]);
+        }
+    }
+
+    /** The toys that the cases below use go as their comments say. */
+    private static void t02ToysGoAsTold() {
+        heights(toss(""), 0, 0, -10, -2, 5, 10, 10, 9, 7, 4, 0, -5, -10);
+        heights(spun(1, 5), 4, -5, 8, 5, 1, -4);
+        heights(spun(-1, 5), 4, 5, 8, 5, 1, -4);
+        heights(alike("", "3+0-9"), 41, 0, -40, -23, -7, 8, 13, 17, 20, 22, 23, 23, 22, 20, 17, 13, 8, 2, -5);
+        heights(alike("", "1-1-9;2-3-9"), 44, 7, 8, 13, 17, 20, 22, 23, 23, 22, 20, 17, 13, 8, 2, -5);
+        heights(wandering(""), 0, -9, -12, -5, 1, 6, 1, -5);
+        for (int u = -4; u <= 4; u++) {
+            BallInCup level = made(36, "", "");
+            level.part(1, u, 9);
+            int away = u == 0 ? 0 : 11 - Math.abs(u);
+            heights(level, 10, u < 0 ? -away : away, -1);
+            due("y from the hand, step 9", level.at(9, 1) - level.at(9, 7), 0);
+        }
+    }
+
+    /** What alike() rests on: each of the 90 hangs still again behind step 40, or 79, if it is so for 20 steps. */
+    private static void t02AlikeAtRest() {
+        for (int pull = 0; pull < 90; pull++) {
+            for (int steps = 1; steps <= 20; steps += 19) {
+                BallInCup b = made(40, "", "");
+                b.part(steps, pull / 10 - 4, pull % 10);
+                int step = steps == 1 ? 40 : 79;
+                place(b, step, b.at(step, 6), b.at(step, 7) - 40, 0, 0);
+                boolean isAbove = false;
+                for (int i = 0; i <= step; i++) {
+                    isAbove |= b.at(i, 1) >= b.at(i, 7);
+                }
+                due("it comes up to the hand", isAbove ? 1 : 0, 0);
+            }
+        }
+    }
+
     /** "u (-4 .. 4)" and "v (0 .. 9) of PART 0". */
     private static void p14UAndVOfTheGrid() {
         BallInCup b = alike("+0+00", "3+0-9");
@@ -1034,6 +1076,24 @@ public final class BoundaryTest {
         b.still();
         due("no PART", b.ends(0, 9), NOT);
         due("NONE in a CUP", toss("+9+90").ends(0, 9), NONE);
+    }
+
+    /** "CUPS 0 .. 3": the last of four is one that is there, for all calls that take a CUP. */
+    private static void t02TheLastOfFourCups() {
+        BallInCup b = alike("+9+90;+9+90;+9+90;-1+00", "3+0-9");
+        due("told(3, 0)", b.told(3, 0), -1);
+        due("cells(3, 0)", b.cells(3, 0), 0);
+        due("middle(3, 0)", b.middle(3, 0), -100004);
+        due("mended(3, 57)", b.mended(3, 57), 90);
+        due("odds(3)", b.odds(3), 0);
+        BallInCup c = alike("+9+90;+9+90;+9+90;+0+00", "3+0-9");
+        due("end(0)", c.end(0), 3);
+        due("ends(0, 0)", c.ends(0, 0), 3);
+        due("cells(3, 0)", c.cells(3, 0), 90);
+        due("middle(3, 2)", c.middle(3, 2), 4);
+        due("odds(3)", c.odds(3), 16);
+        due("which()", c.which(), 3);
+        due("cord(3, 1)", c.cord(3, 1), 16);
     }
 
     /** "how many (0), CELLS (1), the most PULLS of a CELL (2)": none, all 90. */
@@ -1611,6 +1671,12 @@ public final class BoundaryTest {
         }
     }
 
+    /** With no PART the ball hangs: it is down at once, and stays so. */
+    private static void p25WithNoPart() {
+        due("down(0, 0)", new BallInCup().down(0, 0), 0);
+        due("down(99, 0)", new BallInCup().down(99, 0), 99);
+    }
+
     /** "of a TRY in which nothing is MET". */
     private static void p25NothingIsMet() {
         // It would be caught with step 6, or be on the rim, which leaves a pace of 1.
@@ -2081,6 +2147,20 @@ public final class BoundaryTest {
         due("i and n by the row's own size", b.copy(2, 2, 1, 0, 4), INDEX);
         due("j and n by the row's own size", b.copy(1, 0, 2, 2, 3), 3);
         due("j and n by the row's own size", b.copy(1, 0, 2, 2, 4), INDEX);
+    }
+
+    /** "sheets 0 .. 3": from each to each. */
+    private static void p33SheetsAre0To3() {
+        BallInCup b = new BallInCup();
+        for (int sheet = 0; sheet < 4; sheet++) {
+            b.sheet(sheet, 0, 2);
+        }
+        for (int from = -1; from <= 4; from++) {
+            for (int to = -1; to <= 4; to++) {
+                boolean isBad = from < 0 || from > 3 || to < 0 || to > 3;
+                due("from " + from + " to " + to, b.copy(from, 0, to, 1, 1), isBad ? BAD : 1);
+            }
+        }
     }
 
     /** "INDEX also where no item is taken, if i, j is below 0, or above how many there are". */

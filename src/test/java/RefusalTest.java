@@ -2,8 +2,8 @@ import java.util.List;
 
 /**
  * Every refusal that the document names: its answer, which of several comes first, and that it changes nothing. Each
- * one is asked twice of a new object; then all that can be read of the object is read, and must be what is read of a
- * twin that was not asked.
+ * one is asked twice of a new object; then settings, cups, parts, tricks (by what they bring in some times), films on
+ * the sheets, their sizes and lanes, the tape and the image are read, and must be those of a twin that was not asked.
  */
 public final class RefusalTest {
     private static final int FAR = Integer.MAX_VALUE;

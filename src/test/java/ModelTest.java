@@ -316,11 +316,30 @@ public final class ModelTest {
                 default: {
                     int from = random.nextInt(3) > 0 ? 0 : i;
                     int n = random.nextInt(3) > 0 ? near(1, 3) : near(1, row == null ? 12 : Math.max(1, row.length / 2));
-                    int what = near(0, 2);
-                    return same("filmed", real.filmed(sheet, lane, from, n, what),
-                        model.filmed(sheet, lane, from, n, what), sheet, lane, from, n, what);
+                    return random.nextBoolean() ? filmedCall(sheet, lane, from, n) : shownCall(sheet);
                 }
             }
+        }
+
+        private String filmedCall(int sheet, int lane, int from, int n) {
+            int what = near(0, 2);
+            return same("filmed", real.filmed(sheet, lane, from, n, what),
+                model.filmed(sheet, lane, from, n, what), sheet, lane, from, n, what);
+        }
+
+        /** A film that was just made is asked for, so that pulls show it: random items hardly ever do. */
+        private String shownCall(int sheet) {
+            int lane = in(0, 2);
+            int size = in(2, 24);
+            String made = same("sheet", real.sheet(sheet, lane, size), model.sheet(sheet, lane, size), sheet, lane, size);
+            int n = in(1, size / 2);
+            int from = in(0, size - 2 * n);
+            String film = same("film", real.film(sheet, lane, from, n), model.film(sheet, lane, from, n),
+                sheet, lane, from, n);
+            if (made.endsWith("WRONG") || film.endsWith("WRONG")) {
+                return made + '\n' + film + " WRONG";
+            }
+            return made + '\n' + film + '\n' + filmedCall(sheet, lane, from, in(1, n));
         }
 
         private static String same(String name, int got, int want, long... arguments) {
